@@ -429,7 +429,7 @@ public final class SproutCoins {
         int choice = NONE;
         for (int one = 0; one < here.coins; one++) {
             for (int other = one + 1; other < here.coins; other++) {
-                int rotten = rottenWith(one, other, n);
+                int rotten = rottenWith(one, other, n, fewest);
                 if (rotten < fewest) {
                     fewest = rotten;
                     choice = 100 * one + other;
@@ -755,11 +755,16 @@ public final class SproutCoins {
         return trial.worthOf(coin);
     }
 
-    private int rottenWith(int one, int other, int n) {
+    private int rottenWith(int one, int other, int n, int fewest) {
         trial.become(here);
         trial.exchange(one, other);
-        trial.age(n);
-        return trial.howMany(ROTTEN);
+        int rotten = trial.howMany(ROTTEN);
+        // What is ROTTEN stays so: once there are as many as the fewest so far, this change can't be better.
+        for (int i = 0; i < n && rotten < fewest; i++) {
+            trial.age(1);
+            rotten = trial.howMany(ROTTEN);
+        }
+        return rotten;
     }
 
     private int purseWith(int planted, int owner, int n) {

@@ -17,6 +17,7 @@ public final class AdviceTest {
         x.coin(0, 0, 20);
         x.coin(1, 0, 20);
         Check.due("shrinks: spent", x.best(0, 3), 1);
+        Check.due("shrinks in one month: spent", x.best(0, 1), 1);
         Check.due("stays: kept, the least of several", x.best(1, 3), 0);
         Check.due("planted, and back in autumn", x.best(0, 4), 2);
         x.price(9, 2);
@@ -127,6 +128,9 @@ public final class AdviceTest {
         Check.due("of another owner", x.field(2, 7), 16);
         Check.due("who has none", x.field(0, 7), 0);
         Check.due("nothing changed", x.now(5), 0);
+        x.price(9, 0);
+        Check.due("worth nothing then: of several the least", x.field(1, 7), 0);
+        x.price(9, 10);
         x.set(0, 3, 1);
         Check.due("not the rotten one", x.field(1, 7), 6);
         x.set(0, 3, 0);
@@ -146,6 +150,11 @@ public final class AdviceTest {
             SproutCoins y = Check.inMonth(month);
             Check.due("field in month " + month, y.field(0, 1), month >= 2 && month <= 5 ? 0 : Check.STATE);
         }
+        SproutCoins one = Check.inMonth(2);
+        one.coin(0, 0, 5);
+        one.coin(1, 1, 9);
+        one.coin(4, 0, 1);
+        Check.due("with the boiled one as much: the least", one.field(0, 7), 1);
         SproutCoins late = Check.inMonth(9988);
         Check.due("till 9999", late.field(0, 11), 0);
         Check.due("till 10000", late.field(0, 12), Check.STATE);
@@ -226,5 +235,9 @@ public final class AdviceTest {
         x.set(2, 3, 1);
         x.set(1, 3, 1);
         Check.due("none is sound", x.bank(), Check.NONE);
+        SproutCoins first = new SproutCoins();
+        first.coin(5, 0, 9);
+        first.coin(1, 3, 9);
+        Check.due("owner 0", first.bank(), 0);
     }
 }

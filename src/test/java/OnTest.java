@@ -96,6 +96,15 @@ public final class OnTest {
         z.price(9, 0);
         z.price(8, 99);
         Check.due("the 23rd", z.when(0), 23);
+        SproutCoins second = Check.inMonth(9);
+        second.coin(1, 0, 9);
+        second.set(0, 3, 2);
+        for (int season = 0; season < 12; season++) {
+            second.price(season, 0);
+        }
+        Check.due("no price: now", second.when(0), 0);
+        second.price(9, 1);
+        Check.due("worth 5 in a year and in two", second.when(0), 12);
     }
 
     private static void rich() {

@@ -2,6 +2,7 @@
 public final class PaymentTest {
     public static void main(String[] args) {
         leastLost();
+        worthOne();
         allGo();
         payBeyond();
         whichAndOver();
@@ -32,6 +33,16 @@ public final class PaymentTest {
         x.set(1, 3, 2);
         Check.due("rotten and planted ones don't go", x.pay(0, 1, 5), 8);
         Check.due("a coin worth nothing doesn't go with the least set", noneWorthNothing(), 4);
+    }
+
+    private static void worthOne() {
+        SproutCoins x = new SproutCoins();
+        x.coin(0, 0, 1);
+        x.coin(0, 0, 1);
+        x.coin(0, 0, 5);
+        Check.due("two of 1", x.which(0, 2), 3);
+        Check.due("5 and 1", x.which(0, 6), 5);
+        Check.due("none over", x.over(0, 7), 0);
     }
 
     private static int noneWorthNothing() {

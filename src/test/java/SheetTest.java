@@ -140,6 +140,8 @@ public final class SheetTest {
         for (int i = 0; i < 5; i++) {
             Check.due("book " + i, x.write(0, i, 0), due[i]);
         }
+        Check.due("as it is now", x.book(0, 0), 3);
+        Check.due("its worth now", x.write(0, 0, 0), 20);
         Check.due("two numbers", x.book(1, 2), 2);
         Check.due("its lowest bits", x.write(1, 1, 0), 41);
         Check.due("n -1", x.book(0, -1), Check.BEYOND);

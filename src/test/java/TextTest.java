@@ -65,6 +65,10 @@ public final class TextTest {
             Check.due("told loanOf(0, " + what + ")", x.loanOf(0, what), loan[what]);
         }
         Check.due("the second's month", x.loanOf(1, 3), 8);
+        Check.due("the least and the most", Check.told(x, "soil 3 0;price 0 0;loan 3 to 2 1 in 1;sky of 3 size 0"), 4);
+        Check.due("soil 0", x.soil(3, 1), 0);
+        Check.due("price 0", x.price(0, 1), 0);
+        Check.due("who owes", x.loanOf(2, 0), 3);
         Check.due("the later item stands", Check.told(x, "soil 1 2;soil 1 3"), 2);
         Check.due("it does", x.soil(1, 0), 3);
         Check.due("no finding", x.status(-1), 0);
@@ -91,7 +95,7 @@ public final class TextTest {
             "loan 4 to 1 1 in 1", "loan 0 in", "loan 0 to 0 1 in 1", "loan 0 to 4 1 in 1", "loan 0 to 1 0 in 1",
             "loan 0 to 1 10000 in 1", "loan 0 to 1 1 to 1", "loan 0 to 1 1 in 0", "loan 0 to 1 1 in 121",
             "soil 0 1;", "soil 0 1; x", "soil 0 1\n", "soil 0 1 \u00e9", "soil 0 -1", "\tsoil 0 1", "coins of 0 size 1",
-            "coi", "soil 0 1 ; loan 0 to 00 1 in 1"};
+            "coi", "soil 0 1 ; loan 0 to 00 1 in 1", "foil 0 1", "bed of 0 size 1", "coin if 0 size 1", "coin of 0 size 1 gotten"};
         int[] places = {
             0, 2, 0, 0, 0, 4, 0, 0,
             5, 8, 8, 10, 15, 15,
@@ -100,7 +104,7 @@ public final class TextTest {
             5, 7, 10, 10, 12,
             12, 14, 17, 17,
             9, 10, 8, 9, 7, 0, 0,
-            0, 21};
+            0, 21, 0, 0, 5, 17};
         SproutCoins x = new SproutCoins();
         for (int i = 0; i < wrong.length; i++) {
             Check.due("fault of '" + wrong[i] + "'", Check.told(x, wrong[i]), -1 - places[i]);
