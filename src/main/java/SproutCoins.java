@@ -778,6 +778,8 @@ public final class SproutCoins {
     private static final class Market {
         private static final int SET_BITS = COINS;
         private static final int SET_MASK = (1 << COINS) - 1;
+        // Above every set with its worth, as cheapest() tells them.
+        private static final int NO_SET = 1 << 30;
 
         final int[] kindOf = new int[COINS];
         final int[] ownerOf = new int[COINS];
@@ -1051,7 +1053,7 @@ public final class SproutCoins {
             if (sum < v) {
                 return soundOf(from);
             }
-            return cheapest(value, reach, coins - 1, 0, v, Integer.MAX_VALUE) & SET_MASK;
+            return cheapest(value, reach, coins - 1, 0, v, NO_SET) & SET_MASK;
         }
 
         /**

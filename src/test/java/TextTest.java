@@ -9,6 +9,11 @@ public final class TextTest {
         tooMany();
         endsEarly();
         lateLoans();
+        bytes();
+        numbers();
+        wordsInEveryPlace();
+        wholeTape();
+        items120();
         Check.finish("TextTest");
     }
 
@@ -157,5 +162,147 @@ public final class TextTest {
         Check.due("its month", x.loanOf(0, 3), 10110);
         x.months(9);
         Check.due("never due", x.loanOf(0, 4) * 10 + x.loanOf(1, 4), 1);
+    }
+
+    /** Those bytes that lie next to letters, digits and the sign begin no TOKEN; a blank is the byte 32 alone. */
+    private static void bytes() {
+        for (int b = 0; b < 256; b++) {
+            boolean letter = b >= 'a' && b <= 'z';
+            SproutCoins ahead = new SproutCoins();
+            ahead.feed(b, 1);
+            Check.feed(ahead, "soil 0 1");
+            Check.due("byte " + b + " ahead", ahead.market(), b == ' ' ? 1 : -1);
+            SproutCoins between = new SproutCoins();
+            Check.feed(between, "soil");
+            between.feed(b, 1);
+            Check.feed(between, "1 1");
+            int due = letter ? -1 : b == ' ' || b == '0' ? 1 : -5;
+            Check.due("byte " + b + " between", between.market(), due);
+            SproutCoins behind = new SproutCoins();
+            Check.feed(behind, "soil 0 1 ");
+            behind.feed(b, 1);
+            Check.due("byte " + b + " behind", behind.market(), b == ' ' ? 1 : b == ';' ? -11 : -10);
+        }
+    }
+
+    /** Each NUMBER at both ends of what may be there, and beyond them. */
+    private static void numbers() {
+        String[] texts = {"coin of # size 1", "coin of 1 size #", "soil # 1", "soil 1 #", "price # 1", "price 1 #",
+            "loan # to 3 1 in 1", "loan 0 to # 1 in 1", "loan 3 to # 1 in 1", "loan 0 to 1 # in 1", "loan 0 to 1 1 in #"};
+        int[] least = {0, 0, 0, 0, 0, 0, 0, 1, 0, 1, 1};
+        int[] most = {3, 99, 3, 9, 11, 99, 3, 3, 2, 9999, 120};
+        for (int i = 0; i < texts.length; i++) {
+            int place = texts[i].indexOf('#');
+            number(texts[i], Integer.toString(least[i]), 1);
+            // Whoever owes to 3 is another one.
+            number(texts[i], Integer.toString(i == 6 ? 2 : most[i]), 1);
+            number(texts[i], "00000" + least[i], 1);
+            String[] refused = {Integer.toString(most[i] + 1), "9999", "10000", "2147483648", "4294967296", "99999999999999999999"};
+            for (String n : refused) {
+                if (Double.parseDouble(n) > most[i]) {
+                    number(texts[i], n, -1 - place);
+                }
+            }
+            if (least[i] == 1) {
+                number(texts[i], "0", -1 - place);
+                number(texts[i], "000", -1 - place);
+            }
+            number(texts[i], "-1", -1 - place);
+            number(texts[i], "x", -1 - place);
+            number(texts[i], ";", -1 - place);
+        }
+        number("loan # to 3 1 in 1", "3", -11);
+        number("loan 2 to # 1 in 1", "2", -11);
+        number("loan 2 to # 1 in 1", "002", -11);
+    }
+
+    private static void number(String text, String n, int due) {
+        SproutCoins x = Check.inMonth(2);
+        String told = text.replace("#", n);
+        Check.due("'" + told + "'", Check.told(x, told), due);
+        Check.due("'" + told + "': no finding", x.status(-1), 0);
+    }
+
+    /** Each TOKEN of each ITEM left out, and put twice: the FAULT is where the first one stands that can't. */
+    private static void wordsInEveryPlace() {
+        String[] texts = {"sky of 1 size 2 rotten", "soil 1 2", "price 1 2", "loan 1 to 2 3 in 4"};
+        for (String text : texts) {
+            String[] parts = text.split(" ");
+            int place = 0;
+            for (int i = 0; i < parts.length; i++) {
+                String behind = text.substring(Math.min(text.length(), place + parts[i].length() + 1));
+                SproutCoins x = new SproutCoins();
+                boolean free = parts[i].equals("rotten");
+                boolean alike = i + 1 < parts.length && isNumber(parts[i]) && isNumber(parts[i + 1]);
+                if (!free && !alike) {
+                    int due = -1 - place;
+                    Check.due("'" + text + "' without " + parts[i], Check.told(x, text.substring(0, place) + behind), due);
+                }
+                if (!alike) {
+                    String twice = text.substring(0, place) + parts[i] + " " + text.substring(place);
+                    Check.due("'" + twice + "'", Check.told(x, twice), -1 - (place + parts[i].length() + 1));
+                }
+                place += parts[i].length() + 1;
+            }
+        }
+        SproutCoins y = new SproutCoins();
+        Check.due("both", Check.told(y, "coin of 0 size 1 planted rotten"), -26);
+        Check.due("without is fine", Check.told(y, "sky of 1 size 2"), 1);
+        Check.due("neither", Check.told(y, "sky of 1 size 2 sound"), -17);
+        Check.due("names of KINDS alone", Check.told(y, "potato of 1 size 2"), -1);
+        Check.due("no number as a name", Check.told(y, "1 of 1 size 2"), -1);
+        Check.due("no two items without a sign", Check.told(y, "soil 1 2 soil 1 3"), -10);
+        Check.due("no sign ahead", Check.told(y, " ;soil 1 2"), -2);
+        Check.due("no two signs", Check.told(y, "soil 1 2;;soil 1 3"), -10);
+        Check.due("no sign behind", Check.told(y, "soil 1 2 ; "), -12);
+    }
+
+    private static boolean isNumber(String token) {
+        return token.charAt(0) >= '0' && token.charAt(0) <= '9';
+    }
+
+    /** A text may fill the tape to its last byte. */
+    private static void wholeTape() {
+        String item = "price 11 99;";
+        SproutCoins x = new SproutCoins();
+        Check.feed(x, item.repeat(9) + "price 011 98");
+        Check.due("120 bytes", x.count(3), 120);
+        Check.due("ten items", x.market(), 10);
+        Check.due("the last stands", x.price(11, 10), 98);
+        Check.feed(x, item.repeat(9) + "price 0011 9");
+        Check.due("the last byte counts", x.market(), 10);
+        Check.due("it does", x.price(11, 10), 9);
+        Check.feed(x, item.repeat(10));
+        Check.due("it ends too early at 120", x.market(), -121);
+        Check.feed(x, " ".repeat(120));
+        Check.due("blanks alone", x.market(), -121);
+        Check.feed(x, "a".repeat(120));
+        Check.due("one long word", x.market(), -1);
+        Check.feed(x, "soil 3 " + "0".repeat(112) + "7");
+        Check.due("one long number", x.market(), 1);
+        Check.due("it is 7", x.soil(3, 5), 7);
+        Check.feed(x, "soil 3 " + "1".repeat(113));
+        Check.due("one too long", x.market(), -8);
+    }
+
+    /** A text of items without blanks where none must be: as many as the tape holds. */
+    private static void items120() {
+        SproutCoins x = new SproutCoins();
+        String most = "soil1 2;".repeat(14) + "soil1 03";
+        Check.feed(x, most);
+        Check.due("fifteen items", x.market(), 15);
+        Check.due("the last one stands", x.soil(1, 5), 3);
+        Check.due("of twelve coins", Check.told(x, "red of1size1" + ";red of1size1".repeat(7)), 8);
+        Check.due("of twelve coins", Check.told(x, "red of1size1" + ";red of1size1".repeat(3)), 4);
+        Check.due("twelve", x.count(0), 12);
+        Check.due("a 13th", Check.told(x, "soil 1 2;red of1size1"), -10);
+        Check.due("all but the name is wrong, but the name is first", Check.told(x, "red red red"), -1);
+        Check.due("soils and prices still come", Check.told(x, "soil 1 2;price 1 2"), 2);
+        for (int i = 0; i < 8; i++) {
+            Check.due("eight loans", Check.told(x, "loan 0 to 1 1 in 1"), 1);
+        }
+        Check.due("a 9th", Check.told(x, "soil 1 2;loan 0 to 1 1 in 1"), -10);
+        Check.due("a 9th, and wrong besides", Check.told(x, "loan loan"), -1);
+        Check.due("no finding", x.status(-1), 0);
     }
 }
