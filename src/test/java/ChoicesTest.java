@@ -147,6 +147,11 @@ public final class ChoicesTest {
         due(five + "; turn 1 1; set 2 3 1", "cellar 1", 2);
         due(five + "; turn 4 1; set 2 3 1", "cellar 1", 2);
         due(five + "; turn 4 1; set 2 3 1", "cellar 2", 204);
+        // PLANTED ones are not ROTTEN, before they are back and then, but for those that come back as nothing.
+        String planted = "empty 0; coin 0 0 90; coin 0 0 90; coin 0 0 90; coin 0 0 9; coin 0 0 9; coin 0 0 9; set 1 3 1";
+        due(planted + "; set 3 3 2; set 4 3 2; set 5 3 2", "cellar 1", 104);
+        due("empty 8; coin 0 0 9; coin 4 0 9; coin 0 0 90; set 0 3 2; set 1 3 2", "cellar 1", Check.NONE);
+        due("empty 8; coin 0 0 9; coin 4 0 9; coin 0 0 90; set 0 3 2; set 1 3 2", "cellar 2", 1);
     }
 
     private static void field() {

@@ -25,12 +25,19 @@ public final class FaceTest {
 
     private static final String[] NEVER = {
         "\\bthrow\\b", "\\btry\\b", "\\bcatch\\b", "\\bsynchronized\\b", "\\bassert\\b", "\\bimport\\b", "\\bpackage\\b", "->", "::",
-        "\\bstatic \\{", "\\bSystem\\.(?!arraycopy\\b)", "\\bMath\\.\\w+Exact\\b", "\\bprotected\\b", "[^\\x00-\\x7f]"};
+        "\\bstatic \\{", "\\bSystem\\.(?!arraycopy\\b)", "\\bMath\\.\\w+Exact\\b", "\\bprotected\\b", "[^\\x00-\\x7f]",
+        // Of the library the class takes these alone, all of them in rule 4.
+        "\\b(?!Market\\.)[A-Z]\\w*[a-z]\\w*\\.(?!(max|min|bitCount|arraycopy)\\()", "\\bnew (?!Market\\(|Tape\\(|Sheet[\\[(]|int\\[|long\\[)"};
+
+    private static final int MOST_LINES = 60;
+    private static final int MOST_PARAMETERS = 7;
 
     public static void main(String[] args) throws Exception {
         publicFace();
         namesAreUnlike();
+        fewParameters();
         source();
+        shortMethods();
         Check.finish("FaceTest");
     }
 
@@ -82,6 +89,33 @@ public final class FaceTest {
         String code = text.replaceAll("(?s)/\\*.*?\\*/", " ").replaceAll("//[^\\n]*", " ");
         for (String never : NEVER) {
             Check.due("the source has " + never, code.split(never, -1).length - 1, 0);
+        }
+    }
+
+    private static void fewParameters() {
+        for (Method m : SproutCoins.class.getDeclaredMethods()) {
+            Check.due(m + " has few parameters", m.getParameterCount() <= MOST_PARAMETERS ? 1 : 0, 1);
+        }
+        for (Class<?> inside : SproutCoins.class.getDeclaredClasses()) {
+            for (Method m : inside.getDeclaredMethods()) {
+                Check.due(m + " has few parameters", m.getParameterCount() <= MOST_PARAMETERS ? 1 : 0, 1);
+            }
+        }
+    }
+
+    /** A method begins where a line of its class's depth ends with a brace, and ends with the brace of that depth. */
+    private static void shortMethods() throws Exception {
+        String[] lines = Files.readString(Path.of("src/main/java/SproutCoins.java")).split("\n");
+        for (int first = 0; first < lines.length; first++) {
+            String line = lines[first];
+            String depth = line.substring(0, line.length() - line.stripLeading().length());
+            if (line.endsWith(") {") && depth.length() <= 8 && !line.matches(" *(if|for|while|switch|else|do)\\b.*")) {
+                int last = first;
+                while (last < lines.length - 1 && !lines[last].equals(depth + "}")) {
+                    last++;
+                }
+                Check.due(line.strip() + " is short", last - first < MOST_LINES ? 1 : 0, 1);
+            }
         }
     }
 }
